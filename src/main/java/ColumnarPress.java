@@ -58,12 +58,12 @@ public final class ColumnarPress {
         if (changed.kind != 't') {
             throw new UnsupportedOperationException("this is no text");
         }
-        if (changed.words.count >= MOST_WORDS) {
+        if (changed.wordCount >= MOST_WORDS) {
             throw new IllegalStateException("the text has 20 words");
         }
-        changed.words.append(length);
+        changed.appendWord(length);
         touch(box);
-        return changed.words.count;
+        return changed.wordCount;
     }
 
     public int setSize(int box, int width, int height) throws IndexOutOfBoundsException, IllegalArgumentException {
@@ -283,7 +283,7 @@ public final class ColumnarPress {
         needReady();
         long sum = 0;
         for (int b = 0; b < tree.count; b++) {
-            Spot spot = kept.spots[b];
+            Spot spot = kept.spotOf(b);
             sum += (long) spot.width * spot.height;
         }
         return sum;
@@ -291,13 +291,13 @@ public final class ColumnarPress {
 
     public float filled() throws IllegalStateException, ArithmeticException {
         needReady();
-        int whole = kept.spots[ROOT].width * kept.spots[ROOT].height;
+        int whole = kept.spotOf(ROOT).width * kept.spotOf(ROOT).height;
         if (whole == 0) {
             throw new ArithmeticException("the root has no area");
         }
         int length = 0;
         for (int b = 0; b < tree.count; b++) {
-            length += tree.at(b).words.lengthOfAll();
+            length += tree.at(b).lengthOfWords();
         }
         return (float) (length * 10) / (float) whole;
     }
@@ -307,8 +307,8 @@ public final class ColumnarPress {
         int words = 0;
         int rows = 0;
         for (int b = 0; b < tree.count; b++) {
-            words += tree.at(b).words.count;
-            rows += kept.spots[b].text.count;
+            words += tree.at(b).wordCount;
+            rows += kept.spotOf(b).text.count;
         }
         if (rows == 0) {
             throw new ArithmeticException("there are no lines");
@@ -358,7 +358,7 @@ public final class ColumnarPress {
     private Spot readySpot(int box) {
         needBox(box);
         needReady();
-        return kept.spots[box];
+        return kept.spotOf(box);
     }
 
     private Lines readyText(int box) {
@@ -398,49 +398,14 @@ public final class ColumnarPress {
         }
     }
 
-    /** The words of a text; other boxes have none. */
-    private static final class Words {
-        final int[] lengths;
-        int count;
-
-        Words(boolean isText) {
-            lengths = new int[isText ? MOST_WORDS : 0];
-        }
-
-        void append(int length) {
-            if (count < lengths.length) {
-                lengths[count] = length;
-                count++;
-            }
-        }
-
-        int lengthOfAll() {
-            int sum = 0;
-            for (int i = 0; i < count; i++) {
-                sum += lengths[i];
-            }
-            return sum;
-        }
-
-        int longest() {
-            int most = 0;
-            for (int i = 0; i < count; i++) {
-                most = Math.max(most, lengths[i]);
-            }
-            return most;
-        }
-
-        int lengthInOneLine() {
-            return lengthOfAll() + WORD_GAP * Math.max(0, count - 1);
-        }
-    }
-
     /** What was set of a box. */
     private static final class Box {
         final int parent;
         final int level;
         final char kind;
-        final Words words;
+        /** The lengths of its words; a box that is no text has room for none. */
+        final int[] words;
+        int wordCount;
         final Margins margins = new Margins();
         int width = OPEN;
         int height = OPEN;
@@ -461,7 +426,34 @@ public final class ColumnarPress {
             this.parent = parent;
             this.level = level;
             this.kind = kind;
-            words = new Words(kind == 't');
+            words = new int[kind == 't' ? MOST_WORDS : 0];
+        }
+
+        void appendWord(int length) {
+            if (wordCount < words.length) {
+                words[wordCount] = length;
+                wordCount++;
+            }
+        }
+
+        int lengthOfWords() {
+            int sum = 0;
+            for (int i = 0; i < wordCount; i++) {
+                sum += words[i];
+            }
+            return sum;
+        }
+
+        int longestWord() {
+            int most = 0;
+            for (int i = 0; i < wordCount; i++) {
+                most = Math.max(most, words[i]);
+            }
+            return most;
+        }
+
+        int lengthInOneLine() {
+            return lengthOfWords() + WORD_GAP * Math.max(0, wordCount - 1);
         }
 
         boolean isRowOrGrid() {
@@ -485,7 +477,7 @@ public final class ColumnarPress {
 
         /** A number that is none of a box stands for the root here, so that no caller gets null. */
         Box at(int b) {
-            return holds(b) ? boxes[b] : boxes[ROOT];
+            return b >= 0 && b < count ? boxes[b] : boxes[ROOT];
         }
 
         int grow(int parent, char kind) {
@@ -574,8 +566,8 @@ public final class ColumnarPress {
             }
             int twice = 2 * box.padding;
             if (box.kind == 't') {
-                least[b] = twice + box.words.longest();
-                greatest[b] = twice + box.words.lengthInOneLine();
+                least[b] = twice + box.longestWord();
+                greatest[b] = twice + box.lengthInOneLine();
             } else if (box.kind == 'g') {
                 least[b] = twice + sumOfColumns(b, least);
                 greatest[b] = twice + sumOfColumns(b, greatest);
@@ -845,15 +837,7 @@ public final class ColumnarPress {
             }
         }
 
-        void share(int free) {
-            if (free > 0) {
-                growBy(free);
-            } else if (free < 0) {
-                shrinkBy(-free);
-            }
-        }
-
-        private void growBy(int free) {
+        void growBy(int free) {
             int sum = 0;
             for (int i = 0; i < count; i++) {
                 sum += grow[i];
@@ -875,7 +859,7 @@ public final class ColumnarPress {
             }
         }
 
-        private void shrinkBy(int lacking) {
+        void shrinkBy(int lacking) {
             int left = lacking;
             // each further round has one more item frozen
             for (int round = 0; round <= count; round++) {
@@ -943,7 +927,7 @@ public final class ColumnarPress {
     private static final class Layout {
         private final Tree tree;
         final Widths widths;
-        final Spot[] spots = new Spot[MOST_BOXES];
+        private final Spot[] spots = new Spot[MOST_BOXES];
         /** One for each level: contexts and blocks that are open at once are at different ones. */
         private final Floats[] floatsAt = new Floats[DEEPEST_LEVEL + 1];
         private final Flow[] flowAt = new Flow[DEEPEST_LEVEL + 1];
@@ -970,16 +954,21 @@ public final class ColumnarPress {
             }
         }
 
+        /** As in the tree, no caller gets null. */
+        Spot spotOf(int b) {
+            return b >= 0 && b < spotCount ? spots[b] : spots[ROOT];
+        }
+
         /** Gives up what was kept of a box and of all boxes around it. */
         void touch(int b) {
             for (int around = b; around >= 0; around = tree.at(around).parent) {
-                spots[around].isKept = false;
+                spotOf(around).isKept = false;
             }
         }
 
         void forget() {
             for (int b = 0; b < spotCount; b++) {
-                spots[b].isKept = false;
+                spotOf(b).isKept = false;
             }
         }
 
@@ -991,7 +980,7 @@ public final class ColumnarPress {
             // a box has its width before those that are lifted out of it, for their numbers are greater
             for (int b = 1; b < tree.count; b++) {
                 if (tree.isLifted(b)) {
-                    int given = spots[tree.frameOf(b)].width - tree.at(b).offsetX;
+                    int given = spotOf(tree.frameOf(b)).width - tree.at(b).offsetX;
                     layContext(b, widths.fitting(b, given));
                 }
             }
@@ -1002,21 +991,21 @@ public final class ColumnarPress {
         private void findCorners() {
             for (int b = 1; b < tree.count; b++) {
                 Box box = tree.at(b);
-                Spot spot = spots[b];
+                Spot spot = spotOf(b);
                 boolean lifted = tree.isLifted(b);
                 boolean moved = lifted || tree.isShifted(b);
-                Spot from = spots[lifted ? tree.frameOf(b) : box.parent];
+                Spot from = spotOf(lifted ? tree.frameOf(b) : box.parent);
                 spot.left = from.left + (lifted ? 0 : spot.x) + (moved ? box.offsetX : 0);
                 spot.top = from.top + (lifted ? 0 : spot.y) + (moved ? box.offsetY : 0);
             }
         }
 
         private int innerWidth(int b) {
-            return Math.max(0, spots[b].width - 2 * tree.at(b).padding);
+            return Math.max(0, spotOf(b).width - 2 * tree.at(b).padding);
         }
 
         private void layContext(int b, int width) {
-            Spot spot = spots[b];
+            Spot spot = spotOf(b);
             spot.width = width;
             if (!spot.isKept || spot.laidFor != width) {
                 spot.natural = layInside(b);
@@ -1066,7 +1055,7 @@ public final class ColumnarPress {
 
         private void placeInFlow(int c, Flow flow, Floats floats) {
             Box box = tree.at(c);
-            Spot spot = spots[c];
+            Spot spot = spotOf(c);
             flow.takeMargin(box.margins.top);
             int top = flow.edge();
             if (box.clears || box.isRowOrGrid()) {
@@ -1092,7 +1081,7 @@ public final class ColumnarPress {
 
         private void placeFloat(int c, Flow flow, Floats floats) {
             Box box = tree.at(c);
-            Spot spot = spots[c];
+            Spot spot = spotOf(c);
             layContext(c, widths.fitting(c, flow.innerWidth - box.margins.beside()));
             int high = box.margins.above() + spot.height + box.margins.below();
             int wide = spot.width + box.margins.beside();
@@ -1108,20 +1097,20 @@ public final class ColumnarPress {
 
         private int layText(int b, Floats floats, int x, int y) {
             Box box = tree.at(b);
-            Words words = box.words;
-            Lines text = spots[b].text;
+            int[] words = box.words;
+            Lines text = spotOf(b).text;
             text.count = 0;
             int left = x + box.padding;
             int right = left + innerWidth(b);
             int top = y + box.padding;
             int next = 0;
-            for (int line = 0; line < MOST_WORDS && next < words.count; line++) {
-                top = floats.search(top, LINE_HEIGHT, left, right, words.lengths[next]);
+            for (int line = 0; line < MOST_WORDS && next < box.wordCount; line++) {
+                top = floats.search(top, LINE_HEIGHT, left, right, words[next]);
                 int between = floats.rightEdge - floats.leftEdge;
-                int length = words.lengths[next];
+                int length = words[next];
                 int behind = next + 1;
-                while (behind < words.count && length + WORD_GAP + words.lengths[behind] <= between) {
-                    length += WORD_GAP + words.lengths[behind];
+                while (behind < box.wordCount && length + WORD_GAP + words[behind] <= between) {
+                    length += WORD_GAP + words[behind];
                     behind++;
                 }
                 text.append(floats.leftEdge - x + ahead(box.alignment, between - length), top - y, behind - next);
@@ -1145,9 +1134,9 @@ public final class ColumnarPress {
             for (int c = b + 1; c < tree.count; c++) {
                 if (tree.isHeld(c, b)) {
                     Margins margins = tree.at(c).margins;
-                    spots[c].x = left + margins.left;
-                    layContext(c, spots[c].width);
-                    left += spots[c].width + margins.beside();
+                    spotOf(c).x = left + margins.left;
+                    layContext(c, spotOf(c).width);
+                    left += spotOf(c).width + margins.beside();
                 }
             }
             int high = highest(b, b + 1, tree.count);
@@ -1166,9 +1155,13 @@ public final class ColumnarPress {
                     free -= basis + tree.at(c).margins.beside();
                 }
             }
-            shares.share(free);
+            if (free > 0) {
+                shares.growBy(free);
+            } else if (free < 0) {
+                shares.shrinkBy(-free);
+            }
             for (int i = 0; i < shares.count; i++) {
-                spots[shares.item[i]].width = shares.size[i];
+                spotOf(shares.item[i]).width = shares.size[i];
             }
         }
 
@@ -1177,7 +1170,7 @@ public final class ColumnarPress {
             placeInColumns(b);
             for (int c = b + 1; c < tree.count; c++) {
                 if (tree.isHeld(c, b)) {
-                    layContext(c, spots[c].width);
+                    layContext(c, spotOf(c).width);
                 }
             }
             int top = box.padding;
@@ -1203,8 +1196,8 @@ public final class ColumnarPress {
                 if (tree.isHeld(c, b) && column < MOST_COLUMNS) {
                     Box box = tree.at(c);
                     int given = columns[column] - box.margins.beside();
-                    spots[c].width = box.width != OPEN ? box.width : Math.max(2 * box.padding, given);
-                    spots[c].x = left + box.margins.left;
+                    spotOf(c).width = box.width != OPEN ? box.width : Math.max(2 * box.padding, given);
+                    spotOf(c).x = left + box.margins.left;
                     left += columns[column];
                     column++;
                     if (column >= grid.columns) {
@@ -1236,7 +1229,7 @@ public final class ColumnarPress {
             for (int c = from; c < to; c++) {
                 if (tree.isHeld(c, b)) {
                     Margins margins = tree.at(c).margins;
-                    most = Math.max(most, margins.above() + spots[c].height + margins.below());
+                    most = Math.max(most, margins.above() + spotOf(c).height + margins.below());
                 }
             }
             return most;
@@ -1246,10 +1239,10 @@ public final class ColumnarPress {
             for (int c = from; c < to; c++) {
                 if (tree.isHeld(c, b)) {
                     Box box = tree.at(c);
-                    spots[c].y = top + box.margins.above();
+                    spotOf(c).y = top + box.margins.above();
                     if (box.height == OPEN) {
                         int room = high - box.margins.above() - box.margins.below();
-                        spots[c].height = Math.max(spots[c].height, room);
+                        spotOf(c).height = Math.max(spotOf(c).height, room);
                     }
                 }
             }
@@ -1259,7 +1252,7 @@ public final class ColumnarPress {
         int paintedLast(int x, int y) {
             int found = NONE;
             for (int b = 0; b < tree.count; b++) {
-                Spot spot = spots[b];
+                Spot spot = spotOf(b);
                 boolean inX = x >= spot.left && x < spot.left + spot.width;
                 boolean inY = y >= spot.top && y < spot.top + spot.height;
                 if (inX && inY && (found == NONE || tree.at(b).depth >= tree.at(found).depth)) {
@@ -1271,7 +1264,7 @@ public final class ColumnarPress {
 
         boolean isLike(Layout other) {
             for (int b = 0; b < tree.count; b++) {
-                if (!spots[b].isLike(other.spots[b])) {
+                if (!spotOf(b).isLike(other.spotOf(b))) {
                     return false;
                 }
             }
@@ -1280,7 +1273,7 @@ public final class ColumnarPress {
 
         boolean hasAllWords() {
             for (int b = 0; b < tree.count; b++) {
-                if (spots[b].text.wordsOfAll() != tree.at(b).words.count) {
+                if (spotOf(b).text.wordsOfAll() != tree.at(b).wordCount) {
                     return false;
                 }
             }
@@ -1328,7 +1321,7 @@ public final class ColumnarPress {
             for (int c = b + 1; c < tree.count; c++) {
                 if (tree.isHeld(c, b) && !tree.isFloat(c)) {
                     Box box = tree.at(c);
-                    topOf[c] = topOf[b] + layout.spots[c].y;
+                    topOf[c] = topOf[b] + layout.spotOf(c).y;
                     if (box.kind == 't') {
                         takeLines(c);
                     } else if (box.isRowOrGrid() || !tree.hasChildren(c)) {
@@ -1341,7 +1334,7 @@ public final class ColumnarPress {
         }
 
         private void takeLines(int b) {
-            Lines text = layout.spots[b].text;
+            Lines text = layout.spotOf(b).text;
             for (int i = 0; i < text.count; i++) {
                 int top = topOf[b] + text.y[i];
                 boolean parts = i == 0 && text.count > 1 && isLower(topOf[b] + text.y[1] + LINE_HEIGHT);
@@ -1353,7 +1346,7 @@ public final class ColumnarPress {
         }
 
         private void takeBox(int b) {
-            int high = layout.spots[b].height;
+            int high = layout.spotOf(b).height;
             if (high > 0) {
                 takeUnit(b, topOf[b], isLower(topOf[b] + high));
                 if (b == askedBox) {
@@ -1381,7 +1374,7 @@ public final class ColumnarPress {
         /** Whether a box whose first unit comes now wants a new page. */
         private boolean breaksAhead(int b) {
             char breaking = tree.at(b).breaking;
-            int high = layout.spots[b].height;
+            int high = layout.spotOf(b).height;
             return breaking == 'f' || (breaking == 'v' && high <= height && isLower(topOf[b] + high));
         }
     }

@@ -459,7 +459,28 @@ public final class PromiseTests {
         q.setSize(1, 55, 25);
         q.layOut(60);
         rows(q, t, "0 25 3");
-        same("15 beside 20 and 8", q.heightOf(0), 35);
+        same("below the float", q.heightOf(0), 35);
+
+        ColumnarPress u = new ColumnarPress();
+        box(u, 0, 'b', -1, 20);
+        floating(u, 0, 'l', 10, 10);
+        int above = text(u, 0, 30, 30, 30, 30);
+        u.setMargins(above, -20, 0, 0, 0);
+        u.layOut(40);
+        // the float is from 20 to 30: it begins where the second line ends
+        rows(u, above, "0 0 1, 0 10 1, 10 20 1, 0 30 1");
+        u.setMargins(above, -15, 0, 0, 0);
+        u.layOut(40);
+        // the second line is from 15 to 25
+        rows(u, above, "0 0 1, 10 10 1, 10 20 1, 0 30 1");
+        int fits = u.add(0, 'b');
+        u.setFloat(fits, 'r');
+        u.setMargins(fits, 0, 0, 5, 6);
+        text(u, fits, 20, 20);
+        u.layOut(40);
+        same("as fits, less its margins", u.widthOf(fits), 29);
+        u.layOut(25);
+        same("but its least width", u.widthOf(fits), 20);
     }
 
     private static void clearing() {
@@ -629,6 +650,13 @@ public final class PromiseTests {
         p.setFactors(b, 0, 0);
         p.layOut(60);
         same("no weights at all", p.widthOf(b), 30);
+
+        ColumnarPress exact = new ColumnarPress();
+        int e = exact.add(0, 'f');
+        for (int i = 0; i < 4; i++) exact.setFactors(text(exact, e, 5, 5), 0, i < 2 ? 1 : i);
+        exact.layOut(31);
+        // weights 12, 12, 24 and 36 for 17: 2, 2, 4 and 7, which is just the bound, so none is frozen; 2 more
+        same("just the bound", exact.widthOf(2) + " " + exact.widthOf(3) + " " + exact.widthOf(4) + " " + exact.widthOf(5), "9 9 8 5");
 
         ColumnarPress q = new ColumnarPress();
         int r = q.add(0, 'f');
@@ -1069,6 +1097,12 @@ public final class PromiseTests {
         same("a text ends with its padding", q.pageOf(46, t, 0) + " " + q.pageOf(45, t, 0), "0 1");
         same("and is as high", q.pageOf(36, t, 0) + " " + q.pageOf(35, t, 0), "1 0");
         same("a line alone", q.pageOf(20, t, 0) + " " + q.pageOf(32, t, 0) + " " + q.pageOf(33, t, 0), "1 1 0");
+        q.layOut(40);
+        // 10, 10 and 10 in one line now, from 13 to 23
+        q.setBreak(t, 'a');
+        same("one line alone", q.pageOf(23, t, 0) + " " + q.pageOf(22, t, 0) + " " + q.pages(23), "0 1 1");
+        q.setBreak(t, 'v');
+        q.layOut(16);
         same("two first", q.pageOf(10, top, 0) + " " + q.pageOf(10, t, 2) + " " + q.pages(10), "0 3 4");
     }
 

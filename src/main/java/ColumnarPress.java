@@ -12,8 +12,9 @@ public final class ColumnarPress {
     private static final int ROOT = 0;
     private static final int LINE_HEIGHT = 10;
     private static final int WORD_GAP = 2;
-    /** Stands for the end of nothing: whatever it is compared with is lower down. */
-    private static final int FAR_ABOVE = Integer.MIN_VALUE / 2;
+    /** Stand for the end of nothing: whatever they are compared with is lower down, or higher up. */
+    private static final int FAR_ABOVE = -1000000000;
+    private static final int FAR_BELOW = 1000000000;
 
     private final Tree tree;
     private final Layout kept;
@@ -751,7 +752,7 @@ public final class ColumnarPress {
             leftEdge = innerLeft;
             rightEdge = innerRight;
             someLie = false;
-            leastEnd = Integer.MAX_VALUE;
+            leastEnd = FAR_BELOW;
             for (int i = 0; i < count; i++) {
                 if (top[i] < lower && upper < bottom[i]) {
                     someLie = true;

@@ -1,72 +1,5 @@
-import java.util.NoSuchElementException;
-
 /** Each promise by small cases, whose answers were reckoned from the document by hand. */
-public final class PromiseTests {
-    interface Call { Object run(); }
-
-    private static final Class<?> INDEX = IndexOutOfBoundsException.class;
-    private static final Class<?> ARGUMENT = IllegalArgumentException.class;
-    private static final Class<?> STATE = IllegalStateException.class;
-    private static final Class<?> UNSUPPORTED = UnsupportedOperationException.class;
-    private static final Class<?> NO_ELEMENT = NoSuchElementException.class;
-    private static final Class<?> ARITHMETIC = ArithmeticException.class;
-
-    private static int wrong = 0;
-    private static int cases = 0;
-    private static String part = "";
-
-    private static void same(String what, Object got, Object want) {
-        cases++;
-        if (!got.equals(want)) {
-            wrong++;
-            System.out.println(part + ": " + what + " answered " + got + ", due is " + want);
-        }
-    }
-
-    private static void fails(String what, Class<?> want, Call call) {
-        Object got;
-        try {
-            got = call.run();
-        } catch (RuntimeException e) {
-            got = e.getClass();
-        }
-        same(what, got, want);
-    }
-
-    /** x, y, width and height of a box. */
-    private static void spot(ColumnarPress p, int box, int x, int y, int width, int height) {
-        same("box " + box, p.xOf(box) + " " + p.yOf(box) + " " + p.widthOf(box) + " " + p.heightOf(box),
-                x + " " + y + " " + width + " " + height);
-    }
-
-    /** x, y and number of words of each line. */
-    private static void rows(ColumnarPress p, int box, String want) {
-        StringBuilder got = new StringBuilder();
-        for (int i = 0; i < p.lines(box); i++) {
-            if (i > 0) got.append(", ");
-            got.append(p.lineX(box, i)).append(' ').append(p.lineY(box, i)).append(' ').append(p.wordsIn(box, i));
-        }
-        same("lines of " + box, got.toString(), want);
-    }
-
-    private static int text(ColumnarPress p, int parent, int... lengths) {
-        int box = p.add(parent, 't');
-        for (int length : lengths) p.addWord(box, length);
-        return box;
-    }
-
-    private static int box(ColumnarPress p, int parent, char kind, int width, int height) {
-        int box = p.add(parent, kind);
-        p.setSize(box, width, height);
-        return box;
-    }
-
-    private static int floating(ColumnarPress p, int parent, char side, int width, int height) {
-        int box = box(p, parent, 'b', width, height);
-        p.setFloat(box, side);
-        return box;
-    }
-
+public final class PromiseTests extends Checks {
     public static void main(String[] args) {
         newObject();
         adding();
@@ -94,8 +27,7 @@ public final class PromiseTests {
         breaks();
         sums();
         consistency();
-        System.out.println(cases + " cases, " + wrong + " wrong");
-        if (wrong != 0) System.exit(1);
+        end();
     }
 
     private static void newObject() {

@@ -51,11 +51,7 @@ public final class EdgesOfBoxes extends Checks {
 
     private static void fullTexts() {
         part = "24 boxes, 20 words of 60";
-        ColumnarPress p = new ColumnarPress();
-        for (int b = 1; b <= 23; b++) {
-            text(p, 0);
-            for (int i = 1; i <= 20; i++) same("the number of words", p.addWord(b, 60), i);
-        }
+        ColumnarPress p = fullOfWords();
         same("greatest", p.greatestWidth(0), 20 * 60 + 19 * 2);
         same("least", p.leastWidth(0), 60);
         same("one context", p.layOut(0), 1);
@@ -65,14 +61,26 @@ public final class EdgesOfBoxes extends Checks {
         same("all lines", p.meanLine(), 1.0);
         same("pages", p.pages(400) + " " + p.pages(10), "12 460");
         same("the last page", p.pageOf(10, 23, 19), 459);
-        same("one context again", p.layOut(400), 1);
-        // six words in a line, and two in the last one of four
-        same("lines", p.lines(23) + " " + p.wordsIn(23, 0) + " " + p.wordsIn(23, 3), "4 6 2");
-        same("the root", p.heightOf(0), 23 * 40);
-        same("area", p.area(), 2L * 400 * 920);
-        same("filled", p.filled(), 0.75f);
-        same("meanLine", p.meanLine(), 5.0);
         same("isConsistent", p.isConsistent(), true);
+        fails("one more word", STATE, () -> p.addWord(23, 60));
+        ColumnarPress q = fullOfWords();
+        same("one context again", q.layOut(400), 1);
+        // six words in a line, and two in the last one of four
+        same("lines", q.lines(23) + " " + q.wordsIn(23, 0) + " " + q.wordsIn(23, 3), "4 6 2");
+        same("the root", q.heightOf(0), 23 * 40);
+        same("area", q.area(), 2L * 400 * 920);
+        same("filled", q.filled(), 0.75f);
+        same("meanLine", q.meanLine(), 5.0);
+        same("isConsistent", q.isConsistent(), true);
+    }
+
+    private static ColumnarPress fullOfWords() {
+        ColumnarPress p = new ColumnarPress();
+        for (int b = 1; b <= 23; b++) {
+            same("the number of the box", p.add(0, 't'), b);
+            for (int i = 1; i <= 20; i++) same("the number of words", p.addWord(b, 60), i);
+        }
+        return p;
     }
 
     private static void sevenDeep() {

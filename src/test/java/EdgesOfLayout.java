@@ -6,6 +6,7 @@ public final class EdgesOfLayout extends Checks {
     public static void main(String[] args) {
         widthInFlow();
         strut();
+        strutOfEachBlock();
         strutWithoutHeight();
         clearAndPlace();
         endOfContents();
@@ -26,6 +27,7 @@ public final class EdgesOfLayout extends Checks {
         asFits();
         rowsWithoutItems();
         rowsWithNothingFree();
+        rowsWithoutInnerWidth();
         leftOverWhenGrowing();
         leftOverWhenShrinking();
         frozenAtBounds();
@@ -87,6 +89,22 @@ public final class EdgesOfLayout extends Checks {
             p.setMargins(b, 0, m[0], 0, 0);
             p.layOut(10);
             same("the last one", p.heightOf(0), 100 + m[0]);
+        }
+    }
+
+    private static void strutOfEachBlock() {
+        part = "The flow goes down from the upper padding, with a place and a strut, both 0 at first: in each block anew";
+        for (int m : new int[] {-9, 9}) {
+            ColumnarPress p = new ColumnarPress();
+            int a = p.add(0, 'b');
+            p.setMargins(box(p, a, 'b', -1, 20), 0, m, 0, 0);
+            int b = p.add(0, 'b');
+            int in = box(p, b, 'b', -1, 5);
+            p.layOut(30);
+            same("the margin of the block ahead stays in it", p.yOf(b) + " " + p.yOf(in) + " " + p.heightOf(b), (20 + m) + " " + (20 + m) + " 5");
+            p.setMargins(b, m, 0, 0, 0);
+            p.layOut(30);
+            same("nor does its own margin come in", p.yOf(b) + " " + p.yOf(in), (20 + 2 * m) + " " + (20 + 2 * m));
         }
     }
 
@@ -668,6 +686,27 @@ public final class EdgesOfLayout extends Checks {
         }
     }
 
+    private static void rowsWithoutInnerWidth() {
+        part = "What is free is the inner width, which is at least 0, less all bases";
+        for (int told : new int[] {0, 1, 19, 20}) {
+            ColumnarPress p = new ColumnarPress();
+            int row = box(p, 0, 'f', told, -1);
+            p.setPadding(row, 10);
+            int a = text(p, row, 5, 30);
+            int b = text(p, row, 5, 2);
+            p.setFactors(b, 0, 9);
+            int grid = box(p, 0, 'g', told, -1);
+            p.setColumns(grid, 2);
+            p.setPadding(grid, 10);
+            int c = text(p, grid, 3, 4);
+            int d = p.add(grid, 'b');
+            p.layOut(100);
+            spot(p, row, 0, 0, told, 40);
+            same("the row's items at their bounds", p.widthOf(a) + " " + p.xOf(b) + " " + p.widthOf(b), "30 40 5");
+            same("the grid's columns at their bases", p.widthOf(c) + " " + p.xOf(d) + " " + p.widthOf(d), "4 14 0");
+        }
+    }
+
     private static void leftOverWhenGrowing() {
         part = "grows by what is free times its factor divided by the sum, rounded down; units that are left over go, one each, to the first items with a factor more than 0";
         String[] due = {"10 10 10 10", "10 11 10 10", "10 11 10 11", "10 11 10 12", "10 12 10 12", "10 12 10 13", "10 12 10 14"};
@@ -697,6 +736,19 @@ public final class EdgesOfLayout extends Checks {
             p.layOut(80 - lacking);
             same("lacking " + lacking, p.widthOf(2) + " " + p.widthOf(3) + " " + p.widthOf(4) + " " + p.widthOf(5), due[lacking]);
         }
+        part = "divided by the sum of weights, rounded down";
+        ColumnarPress near = new ColumnarPress();
+        int r = near.add(0, 'f');
+        int great = text(near, r, 2, 2);
+        for (int i = 0; i < 17; i++) near.addWord(great, 1);
+        int small = text(near, r, 1, 1, 1);
+        same("bases", near.greatestWidth(great) + " " + near.greatestWidth(small), "57 7");
+        near.layOut(55);
+        // 9 times 7 by 64 is not yet 1, so that the unit left over is lost by the first one
+        same("nearly 1", near.widthOf(great) + " " + near.widthOf(small), "48 7");
+        near.layOut(54);
+        same("just more than 1", near.widthOf(great) + " " + near.widthOf(small), "48 6");
+        part = "one each, by the first ones that are still greater than their bound";
         ColumnarPress p = new ColumnarPress();
         int row = p.add(0, 'f');
         int told = box(p, row, 'b', 20, 1);
@@ -722,6 +774,15 @@ public final class EdgesOfLayout extends Checks {
             p.layOut(Math.max(0, 60 - lacking[i]));
             same("lacking " + lacking[i], p.widthOf(a) + " " + p.widthOf(b), due[i]);
         }
+        part = "two are frozen in one round";
+        ColumnarPress both = new ColumnarPress();
+        int r = both.add(0, 'f');
+        text(both, r, 35, 3);
+        text(both, r, 9, 9, 9, 7);
+        text(both, r, 34, 4);
+        both.layOut(90);
+        // 10 each, of which the first can lose 5 and the last 6, so 19 for the other
+        same("the other one loses the rest", both.widthOf(2) + " " + both.widthOf(3) + " " + both.widthOf(4), "35 21 34");
         part = "another round freezes more";
         ColumnarPress p = new ColumnarPress();
         int row = p.add(0, 'f');
@@ -794,6 +855,22 @@ public final class EdgesOfLayout extends Checks {
                 p.layOut(60);
                 same("the text alone is 15", p.heightOf(a) + " " + p.heightOf(row), Math.max(10, high - 5) + " " + Math.max(15, high));
             }
+        }
+        part = "an open height, whether the width is told or not";
+        for (char kind : "fg".toCharArray()) {
+            ColumnarPress p = new ColumnarPress();
+            int row = p.add(0, kind);
+            p.setColumns(row, 3);
+            box(p, row, 'b', 10, 30);
+            int wide = box(p, row, 'b', 10, -1);
+            int high = box(p, row, 'b', -1, 7);
+            p.setFactors(high, 1, 0);
+            p.layOut(kind == 'f' ? 60 : 20);
+            same("a told width alone", p.widthOf(wide) + " " + p.heightOf(wide), "10 30");
+            same("a told height alone", p.widthOf(high) + " " + p.heightOf(high), (kind == 'f' ? 40 : 0) + " 7");
+            p.layOut(80);
+            same("a told width in a wider column", p.widthOf(wide) + " " + p.heightOf(wide), "10 30");
+            same("an open one", p.widthOf(high) + " " + p.heightOf(high), (kind == 'f' ? 60 : 20) + " 7");
         }
         part = "what is inside is not laid out anew for that";
         ColumnarPress p = new ColumnarPress();

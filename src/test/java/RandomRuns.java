@@ -48,7 +48,11 @@ public final class RandomRuns {
         }
     }
 
-    private int pick(int from, int to) { return from + random.nextInt(to - from + 1); }
+    /** Any number of a range, and both ends of it more often than the others. */
+    private int pick(int from, int to) {
+        if (chance(8)) return chance(50) ? from : to;
+        return from + random.nextInt(to - from + 1);
+    }
 
     private char one(String of) { return of.charAt(random.nextInt(of.length())); }
 

@@ -248,21 +248,19 @@ public final class EdgesOfBoxes extends Checks {
 
     private static void offsets() {
         part = "two offsets from -100 to 100";
-        ColumnarPress p = new ColumnarPress();
-        int a = box(p, 0, 'b', 10, 10);
-        int b = box(p, 0, 'b', 10, 10);
         int[] taken = {-100, -99, 0, 99, 100};
-        char before = 's';
         for (int x : taken) {
+            ColumnarPress p = new ColumnarPress();
+            int a = box(p, 0, 'b', 10, 10);
+            int b = box(p, 0, 'b', 10, 10);
             for (int y : taken) {
-                same("before", p.setPlace(b, 'r', x, y), before);
+                same("before", p.setPlace(b, 'r', x, y), 's');
                 p.layOut(90);
                 spot(p, b, x, 10 + y, 10, 10);
                 same("before", p.setPlace(b, 'a', x, y), 'r');
                 p.layOut(90);
                 spot(p, b, x, y, 10, 10);
                 same("before", p.setPlace(b, 's', x, y), 'a');
-                before = 's';
                 p.layOut(90);
                 spot(p, b, 0, 10, 10, 10);
                 spot(p, a, 0, 0, 10, 10);

@@ -30,6 +30,7 @@ public final class EdgesOfLayout extends Checks {
         rowsWithoutInnerWidth();
         leftOverWhenGrowing();
         leftOverWhenShrinking();
+        rowsBehindRows();
         frozenAtBounds();
         weights();
         heightsOfItems();
@@ -760,6 +761,22 @@ public final class EdgesOfLayout extends Checks {
         same("again", p.widthOf(told) + " " + p.widthOf(one) + " " + p.widthOf(two), "20 19 19");
     }
 
+    private static void rowsBehindRows() {
+        part = "The items of a row are its children, and not those of a row ahead";
+        ColumnarPress p = new ColumnarPress();
+        int ahead = box(p, 0, 'f', 400, -1);
+        for (int i = 0; i < 3; i++) p.setFactors(text(p, ahead, 18, 1), 1, 1);
+        int grows = box(p, 0, 'f', 31, -1);
+        int one = text(p, grows, 9, 9);
+        p.setFactors(one, 1, 0);
+        int shrinks = box(p, 0, 'f', 29, -1);
+        int two = text(p, shrinks, 9, 9);
+        int three = text(p, shrinks, 9, 9);
+        p.layOut(0);
+        same("all that is free", p.widthOf(one), 31);
+        same("all that is lacking", p.widthOf(two) + " " + p.widthOf(three), "14 15");
+    }
+
     private static void frozenAtBounds() {
         part = "those that would be less than that bound are frozen; if there were some, another round follows";
         // bases 20 and 40, bounds 14 and 9: a third of what is lacking for the first
@@ -943,6 +960,19 @@ public final class EdgesOfLayout extends Checks {
             same(items + " items", p.heightOf(grid), (items + 3) / 4 * 5);
             same("as wide", p.greatestWidth(grid), 10 * Math.min(4, items));
             if (items > 0) same("the last one", p.xOf(items + 1) + " " + p.yOf(items + 1), (items - 1) % 4 * 10 + " " + (items - 1) / 4 * 5);
+        }
+        part = "items are as high as in a flexible row, each in its own row of the grid";
+        for (int columns = 1; columns <= 3; columns++) {
+            ColumnarPress p = new ColumnarPress();
+            int grid = p.add(0, 'g');
+            p.setColumns(grid, columns);
+            for (int i = 0; i < columns; i++) box(p, grid, 'b', 10, 30);
+            int low = text(p, grid, 5);
+            p.layOut(40);
+            same("the next row is as high as its text", p.yOf(low) + " " + p.heightOf(low) + " " + p.heightOf(grid), "30 10 40");
+            p.setColumns(grid, columns + 1);
+            p.layOut(40);
+            same("in the first row", p.yOf(low) + " " + p.heightOf(low) + " " + p.heightOf(grid), "0 30 30");
         }
         part = "A row is as high as its highest item with its margins";
         ColumnarPress p = new ColumnarPress();

@@ -460,6 +460,15 @@ public final class ColumnarPress {
         boolean isRowOrGrid() {
             return kind == 'f' || kind == 'g';
         }
+
+        /** The place of the root, which has no parent, means nothing. */
+        boolean isLifted() {
+            return place == 'a' && parent != NONE;
+        }
+
+        boolean isShifted() {
+            return place == 'r' && parent != NONE;
+        }
     }
 
     /** The boxes; each has a greater number than the box that it is inside. */
@@ -491,11 +500,11 @@ public final class ColumnarPress {
         }
 
         boolean isLifted(int b) {
-            return b != ROOT && at(b).place == 'a';
+            return at(b).isLifted();
         }
 
         boolean isShifted(int b) {
-            return b != ROOT && at(b).place == 'r';
+            return at(b).isShifted();
         }
 
         boolean isFloat(int b) {
@@ -504,7 +513,8 @@ public final class ColumnarPress {
 
         /** Whether a box is a child that takes room in its parent: one that is not lifted out. */
         boolean isHeld(int b, int parent) {
-            return at(b).parent == parent && !isLifted(b);
+            Box box = at(b);
+            return box.parent == parent && !box.isLifted();
         }
 
         boolean hasChildren(int b) {

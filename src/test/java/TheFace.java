@@ -2,16 +2,13 @@ import java.lang.reflect.Constructor;
 import java.lang.reflect.Field;
 import java.lang.reflect.Method;
 import java.lang.reflect.Modifier;
-import java.nio.charset.StandardCharsets;
-import java.nio.file.Files;
-import java.nio.file.Paths;
 import java.util.ArrayList;
 import java.util.Arrays;
 import java.util.Collections;
 import java.util.List;
 
-/** The public face, member by member, and those rules of LANGUAGE.md that can be seen from outside or in the text. */
-public final class FaceAndLanguage {
+/** The public face, member by member, and that nothing else can be seen from outside (rule 1 of LANGUAGE.md). */
+public final class TheFace {
     private static final String I = "IndexOutOfBoundsException";
     private static final String A = "IllegalArgumentException";
     private static final String S = "IllegalStateException";
@@ -63,11 +60,10 @@ public final class FaceAndLanguage {
         }
     }
 
-    public static void main(String[] args) throws Exception {
+    public static void main(String[] args) {
         face();
         inside();
-        text();
-        System.out.println(wrong == 0 ? "the face and the language are as due" : wrong + " things are not as due");
+        System.out.println(wrong == 0 ? "the face is as due" : wrong + " things are not as due");
         if (wrong != 0) System.exit(1);
     }
 
@@ -119,52 +115,9 @@ public final class FaceAndLanguage {
     }
 
     private static void inside() {
-        holds(withInside().size() <= 13, "there are some twelve classes");
-        for (Class<?> c : withInside()) {
-            int fields = 0;
-            for (Field f : c.getDeclaredFields()) {
-                boolean isStatic = Modifier.isStatic(f.getModifiers());
-                holds(!isStatic || Modifier.isFinal(f.getModifiers()), f + " is final");
-                if (!isStatic) fields++;
-            }
-            holds(fields <= 20, c + " has some twenty fields");
-            for (Method m : c.getDeclaredMethods()) holds(m.getParameterCount() <= 7, m + " takes at most seven");
-            if (c != ColumnarPress.class) {
-                holds(Modifier.isStatic(c.getModifiers()) && !Modifier.isPublic(c.getModifiers())
-                        && !Modifier.isProtected(c.getModifiers()), c + " is static and not to be seen");
-            }
-        }
-    }
-
-    private static void text() throws Exception {
-        byte[] bytes = Files.readAllBytes(Paths.get("src/main/java/ColumnarPress.java"));
-        for (byte b : bytes) holds(b > 0, "all signs are 1 to 127");
-        String code = new String(bytes, StandardCharsets.US_ASCII)
-                .replaceAll("(?s)/\\*.*?\\*/", "").replaceAll("//[^\n]*", "").replaceAll("\"[^\"\n]*\"", "\"\"");
-        String[] words = {"try", "catch", "finally", "synchronized", "assert", "protected", "equals", "hashCode",
-            "toString", "native", "volatile", "transient", "System", "Object", "Thread", "package", "var", "lambda"};
-        for (String word : words) {
-            holds(!code.matches("(?s).*\\b" + word + "\\b.*"), "there is no " + word);
-        }
-        for (String sign : new String[] {"->", "::", "@", "Exact("}) holds(!code.contains(sign), "there is no " + sign);
-        for (String line : code.split("\n")) {
-            boolean known = line.equals("import java.util.Arrays;") || line.equals("import java.util.NoSuchElementException;");
-            holds(!line.startsWith("import") || known, line);
-        }
-        shortMethods(code);
-    }
-
-    /** Counts from a line that opens a method, at the depth of a member, to the line that closes it. */
-    private static void shortMethods(String code) {
-        String[] lines = code.split("\n");
-        for (int i = 0; i < lines.length; i++) {
-            String start = lines[i].replaceAll("^( *).*", "$1");
-            boolean opens = (start.length() == 4 || start.length() == 8) && lines[i].endsWith("{")
-                    && lines[i].contains("(") && !lines[i].contains("class ");
-            if (!opens) continue;
-            int end = i;
-            while (end < lines.length && !lines[end].equals(start + "}")) end++;
-            holds(end - i <= 60, "short: " + lines[i].trim());
+        for (Class<?> c : ColumnarPress.class.getDeclaredClasses()) {
+            int of = c.getModifiers();
+            holds(Modifier.isStatic(of) && !Modifier.isPublic(of) && !Modifier.isProtected(of), c + " is static and not to be seen");
         }
     }
 }
